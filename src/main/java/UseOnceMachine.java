@@ -317,9 +317,9 @@ public final class UseOnceMachine {
         int done = 0;
         int stop = RUNNING;
 
+        /** Frames' own rows may stay as they are: a call writes them before a return reads them. */
         void clear() {
             Arrays.fill(places, Value.ZERO);
-            Arrays.fill(notes, Value.ZERO);
             Arrays.fill(counts, 0);
             Arrays.fill(gateStates, GATE_EMPTY);
             Arrays.fill(gateModules, 0);

@@ -12,6 +12,7 @@ public final class CallTest {
         sharedOnesKeepTheirCount();
         openGate();
         fiveFrames();
+        fiveFramesAndBack();
         goodReturns();
         badReturns();
         Check.end();
@@ -155,6 +156,37 @@ public final class CallTest {
         Check.same("conserve", x.conserve(), 0);
         Check.same("undo, but for the fault", x.undo(40), 39);
         Check.same("frames taken back", x.look(0), 0);
+    }
+
+    /** R 6 counts down how deep it still goes; each module at work calls the next of the five gates. */
+    private static void fiveFramesAndBack() {
+        int[][] caller = new int[13][];
+        for (int i = 1; i <= 5; i++) {
+            caller[i - 1] = Machines.o(Machines.SPLIT, i, i < 5 ? i + 1 : 7, 4);
+            caller[i + 4] = Machines.o(Machines.SEAL, i, 1, 63);
+        }
+        caller[10] = Machines.o(Machines.NUMBER, 6, 4);
+        caller[11] = Machines.o(Machines.CALL, 1, 6);
+        caller[12] = STOP;
+        int[] out = Machines.o(Machines.JUMP, 16);
+        int[][] callee = Machines.rows(Machines.o(Machines.ZERO, 6, 16), Machines.o(Machines.NUMBER, 0, 1), Machines.o(Machines.SUB, 6, 0),
+            Machines.o(Machines.ZERO, 6, 10), Machines.o(Machines.NUMBER, 0, 2), Machines.o(Machines.LESS, 6, 0, 12),
+            Machines.o(Machines.NUMBER, 0, 3), Machines.o(Machines.LESS, 6, 0, 14), Machines.o(Machines.CALL, 2, 6), out,
+            Machines.o(Machines.CALL, 5, 6), out, Machines.o(Machines.CALL, 4, 6), out, Machines.o(Machines.CALL, 3, 6), out, BACK);
+        UseOnceMachine x = Machines.booted(caller, callee, NONE);
+        int deepest = 0;
+        for (int i = 0; i < 100 && x.step(1) == 0; i++) {
+            deepest = Math.max(deepest, x.look(0));
+            Check.same("conserve", x.conserve(), 0);
+        }
+        Check.same("halted", x.look(4), -1);
+        Check.same("deepest", deepest, 5);
+        Check.same("back again", x.look(0), 0);
+        for (int i = 1; i <= 5; i++) {
+            Machines.registerIs("the seals are back", x, i, 3, 0, 0, 0, i - 1);
+            Check.same("the gates are closed", x.gate(i - 1, 0), 1);
+        }
+        Machines.registerIs("the caller's R 7", x, 7, 1, 20, 48, 15, 0);
     }
 
     /** R 1 is a right and lent, R 2 a number and lent, R 3 a right and passed, R 4 a number; k is 4. */

@@ -1,6 +1,5 @@
 /** Promises 6 to 14: the calls that only look. */
 public final class LooksTest {
-    private static final int[] WRONG = {-1, Integer.MIN_VALUE, Integer.MAX_VALUE};
     private static final int[] CUT = Machines.o(Machines.SPLIT, 1, 2, 16);
 
     public static void main(String[] args) {
@@ -21,19 +20,31 @@ public final class LooksTest {
         wrongArgumentsOf(Machines.ran(CUT, Machines.o(Machines.STORE, 1, 2, 1)));
     }
 
+    /** Numbers that are not 0 .. size - 1. */
+    private static int[] wrong(int size) {
+        return new int[] {-1, size, Integer.MIN_VALUE, Integer.MAX_VALUE};
+    }
+
     private static void wrongArgumentsOf(UseOnceMachine x) {
-        for (int i = 0; i < 4; i++) {
-            int below = i < 3 ? WRONG[i] : -2;
-            Check.same("register", x.register(i < 3 ? below : 8, 0), -1);
-            Check.same("register's field", x.register(1, i < 3 ? below : 5), -1);
-            Check.same("word", x.word(i < 3 ? below : 48, 0), -1);
-            Check.same("word's field", x.word(17, i < 3 ? below : 5), -1);
-            Check.same("look", x.look(i < 3 ? below : 8), -1);
-            Check.same("owner's word", x.owner(i < 3 ? below : 48, 1), -1);
-            Check.same("count", x.count(i < 3 ? below : 6), -1);
-            Check.same("gate", x.gate(i < 3 ? below : 6, 0), -1);
-            Check.same("gate's field", x.gate(0, i < 3 ? below : 3), -1);
-            Check.same("reaches", x.reaches(i < 3 ? below : 48), false);
+        for (int i : wrong(8)) {
+            Check.same("register(" + i + ", 0)", x.register(i, 0), -1);
+            Check.same("look(" + i + ")", x.look(i), -1);
+        }
+        for (int i : wrong(5)) {
+            Check.same("register(1, " + i + ")", x.register(1, i), -1);
+            Check.same("word(17, " + i + ")", x.word(17, i), -1);
+        }
+        for (int i : wrong(48)) {
+            Check.same("word(" + i + ", 0)", x.word(i, 0), -1);
+            Check.same("owner(" + i + ", 1)", x.owner(i, 1), -1);
+            Check.same("reaches(" + i + ")", x.reaches(i), false);
+        }
+        for (int i : wrong(6)) {
+            Check.same("count(" + i + ")", x.count(i), -1);
+            Check.same("gate(" + i + ", 0)", x.gate(i, 0), -1);
+        }
+        for (int i : wrong(3)) {
+            Check.same("gate(0, " + i + ")", x.gate(0, i), -1);
         }
         int[] noRight = {0, 3, 5, 6, 7, 9, 15, 16, -1, Integer.MIN_VALUE, Integer.MAX_VALUE};
         for (int right : noRight) {
@@ -174,6 +185,9 @@ public final class LooksTest {
         Check.same("a shared one is a way", x.reach(), 48);
         x = Machines.ran(half, Machines.o(Machines.SEAL, 2, 0, 0), Machines.o(Machines.STORE, 2, 1, 0));
         Check.same("a seal is none", x.reach(), 4);
+        x = Machines.ran(CUT, Machines.o(Machines.RESTRICT, 2, 3, 1), Machines.o(Machines.FREEZE, 2), Machines.o(Machines.MOVE, 4, 2),
+            Machines.o(Machines.SPLIT, 1, 5, 8), Machines.o(Machines.STORE, 5, 1, 7), Machines.o(Machines.MOVE, 6, 1));
+        Check.same("one way behind two to the same words", x.reach(), 48);
     }
 
     private static void conserve() {

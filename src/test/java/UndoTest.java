@@ -7,6 +7,7 @@ public final class UndoTest {
         lessAfterTakingBack();
         stopsAreTakenBack();
         everyOrderIsTakenBack();
+        framesAreTakenBack();
         Check.end();
     }
 
@@ -84,13 +85,26 @@ public final class UndoTest {
 
     /** A run through all kinds of orders: taking n back gives what was seen n orders before. */
     private static void everyOrderIsTakenBack() {
-        int[][] caller = Machines.rows(Machines.o(4, 1, 2, 16), Machines.o(6, 2, 3, 1), Machines.o(7, 2), Machines.o(1, 4, 2),
-            Machines.o(11, 4, 1, 3), Machines.o(10, 5, 1, 3), Machines.o(9, 5), Machines.o(9, 4), Machines.o(4, 1, 4, 8),
-            Machines.o(15, 4, 1, 2), Machines.o(11, 3, 1, 6), Machines.o(16, 4, 2), Machines.o(10, 3, 1, 6), Machines.o(10, 6, 1, 3),
-            Machines.o(9, 6), Machines.o(12, 16), Machines.o(13, 5, 17), Machines.o(14, 5, 0, 18), Machines.o(18));
-        int[][] callee = Machines.rows(Machines.o(0, 0, 9), Machines.o(11, 1, 7, 2), Machines.o(10, 1, 7, 2), Machines.o(3, 3, 0),
-            Machines.o(11, 1, 7, 1), Machines.o(17));
-        UseOnceMachine x = Machines.booted(caller, callee, new int[0][]);
+        int[][] caller = Machines.rows(Machines.o(4, 1, 2, 16), Machines.o(6, 2, 3, 1), Machines.o(7, 2), Machines.o(8, 2),
+            Machines.o(5, 2, 3), Machines.o(6, 2, 3, 1), Machines.o(7, 2), Machines.o(1, 4, 2), Machines.o(11, 4, 1, 3),
+            Machines.o(10, 5, 1, 3), Machines.o(9, 5), Machines.o(9, 4), Machines.o(4, 1, 4, 8), Machines.o(15, 4, 1, 3),
+            Machines.o(11, 3, 1, 6), Machines.o(16, 4, 2), Machines.o(10, 3, 1, 6), Machines.o(10, 6, 1, 3), Machines.o(9, 6),
+            Machines.o(12, 20), Machines.o(13, 5, 21), Machines.o(14, 5, 0, 22), Machines.o(18));
+        int[][] callee = Machines.rows(Machines.o(0, 0, 9), Machines.o(2, 4, 0), Machines.o(11, 1, 7, 2), Machines.o(10, 1, 7, 2),
+            Machines.o(3, 3, 0), Machines.o(17));
+        takenBackAnywhere(Machines.booted(caller, callee, new int[0][]), 29);
+    }
+
+    /** Modules 1 and 2 call each other, so that a frame is used for a caller and then for another. */
+    private static void framesAreTakenBack() {
+        int[][] caller = Machines.rows(Machines.o(4, 1, 2, 8), Machines.o(4, 2, 3, 8), Machines.o(4, 3, 4, 8), Machines.o(15, 2, 1, 63),
+            Machines.o(15, 3, 2, 63), Machines.o(0, 6, 1), Machines.o(16, 2, 6), Machines.o(16, 3, 6), Machines.o(18));
+        int[][] first = Machines.rows(Machines.o(13, 6, 2), Machines.o(16, 3, 0), Machines.o(17));
+        int[][] second = Machines.rows(Machines.o(13, 6, 3), Machines.o(16, 2, 1), Machines.o(0, 0, 4), Machines.o(17));
+        takenBackAnywhere(Machines.booted(caller, first, second), 20);
+    }
+
+    private static void takenBackAnywhere(UseOnceMachine x, int due) {
         String[] seen = new String[40];
         int orders = 0;
         seen[0] = Machines.all(x);
@@ -100,10 +114,14 @@ public final class UndoTest {
             seen[orders] = Machines.all(x);
         }
         Check.same("conserve", x.conserve(), 0);
+        Check.same("halted", x.look(4), -1);
+        Check.same("orders done", orders, due);
         for (int n = 1; n <= orders; n++) {
             Check.same("undo(" + n + ")", x.undo(n), n);
             Check.same(n + " taken back", Machines.all(x), seen[orders - n]);
-            x.step(n);
+            for (int i = 0; i < n; i++) {
+                x.step(1);
+            }
             Check.same(n + " done again", Machines.all(x), seen[orders]);
         }
         for (int left = orders - 1; left >= 0; left--) {
