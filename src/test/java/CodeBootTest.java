@@ -67,6 +67,7 @@ public final class CodeBootTest {
         Check.same("boot again", x.boot(), false);
         Check.same("all is as at first", Machines.all(x), fresh);
         Check.same("nothing to take back", x.undo(40), 0);
+        Check.same("nor is anything old brought back", Machines.all(x), fresh);
         Check.same("not booted", x.step(1), -2);
         Check.same("code from 0", x.code(0, Machines.NUMBER, 3, 9, 0), 0);
         Check.same("boot", x.boot(), true);
