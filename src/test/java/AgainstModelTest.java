@@ -6,6 +6,9 @@
 public final class AgainstModelTest {
     private static final int PROGRAMS = 1000;
     private static final int TRIES = 24;
+    private static final int STEP = 0;
+    private static final int UNDO = 1;
+    private static final int BOOT = 2;
     private static final int[] OPERATIONS = {
         0, 1, 1, 2, 3, 4, 4, 5, 5, 6, 6, 7, 7, 7, 8, 9, 10, 10, 11, 11, 11, 12, 13, 14, 15, 15, 16, 16, 17, 17, 18};
 
@@ -130,25 +133,40 @@ public final class AgainstModelTest {
         return anOrder(scratch, below(20));
     }
 
+    /** The calls are made anew for each look at all of the machine: one object is good for 512 alone. */
     private static void compare(int run, Model scratch) {
-        UseOnceMachine x = new UseOnceMachine();
         Model y = new Model();
         for (int m = 0; m < 3; m++) {
             for (int[] o : scratch.code.get(m)) {
-                Check.same("code", x.code(m, o[0], o[1], o[2], o[3]), y.code(m, o[0], o[1], o[2], o[3]));
+                y.code(m, o[0], o[1], o[2], o[3]);
             }
         }
-        Check.same("boot", x.boot(), y.boot());
-        for (int i = 0; i < 25; i++) {
+        y.boot();
+        int[][] calls = new int[26][];
+        for (int i = 0; i < calls.length; i++) {
             int n = below(3) == 0 ? below(34) - 1 : 1 + below(6);
-            if (below(4) == 0) {
-                Check.same("undo(" + n + ")", x.undo(n), y.undo(n));
-            } else {
-                Check.same("step(" + n + ")", x.step(n), y.step(n));
+            int kind = i == calls.length - 1 ? BOOT : below(4) == 0 ? UNDO : STEP;
+            int answer = kind == BOOT ? y.boot() ? 1 : 0 : kind == UNDO ? y.undo(n) : y.step(n);
+            calls[i] = new int[] {kind, n, answer, y.reach(), y.conserve()};
+            for (int half = 0; half < Seen.HALVES; half++) {
+                Check.same("run " + run + ", call " + i, Seen.all(again(scratch, calls, i), half), Seen.all(y, half));
             }
-            Check.same("run " + run + ", call " + i, Machines.all(x), Seen.all(y));
         }
-        Check.same("boot again", x.boot(), y.boot());
-        Check.same("run " + run + ", not booted", Machines.all(x), Seen.all(y));
+    }
+
+    private static Used again(Model scratch, int[][] calls, int last) {
+        Used x = Machines.booted(orders(scratch, 0), orders(scratch, 1), orders(scratch, 2));
+        for (int i = 0; i <= last; i++) {
+            int n = calls[i][1];
+            int answer = calls[i][0] == BOOT ? x.boot() ? 1 : 0 : calls[i][0] == UNDO ? x.undo(n) : x.step(n);
+            Check.same("call " + i + " of kind " + calls[i][0] + " with " + n, answer, calls[i][2]);
+            Check.same("reach after call " + i, x.reach(), calls[i][3]);
+            Check.same("conserve after call " + i, x.conserve(), calls[i][4]);
+        }
+        return x;
+    }
+
+    private static int[][] orders(Model scratch, int module) {
+        return scratch.code.get(module).toArray(new int[0][]);
     }
 }

@@ -2,15 +2,29 @@
 final class Check {
     private static int done = 0;
     private static int wrong = 0;
+    private static String heading = "";
 
     private Check() {
+    }
+
+    /** What stands ahead of each answer that is printed from now on. */
+    static void headWith(String text) {
+        heading = text;
+    }
+
+    static int done() {
+        return done;
+    }
+
+    static int wrong() {
+        return wrong;
     }
 
     static void same(String what, long got, long due) {
         done++;
         if (got != due) {
             wrong++;
-            System.out.println(what + " answered " + got + ", due is " + due);
+            System.out.println(heading + what + " answered " + got + ", due is " + due);
         }
     }
 
@@ -22,7 +36,7 @@ final class Check {
         done++;
         if (!got.equals(due)) {
             wrong++;
-            System.out.println(what + " answered\n  " + got + "\ndue is\n  " + due);
+            System.out.println(heading + what + " answered\n  " + got + "\ndue is\n  " + due);
         }
     }
 

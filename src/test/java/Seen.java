@@ -1,5 +1,10 @@
-/** All answers of the calls that only look, of a machine or of the model, as one text. */
+/**
+ * All answers of the calls that only look, of a machine or of the model, as text. They are more
+ * than the calls that one object is good for, so the text has two halves.
+ */
 final class Seen {
+    static final int HALVES = 2;
+
     /** The calls that only look: the machine itself can't implement an interface of the tests. */
     interface Looks {
         int register(int r, int field);
@@ -21,62 +26,19 @@ final class Seen {
         int conserve();
     }
 
-    private record Machine(UseOnceMachine x) implements Looks {
-        @Override
-        public int register(int r, int field) {
-            return x.register(r, field);
-        }
-
-        @Override
-        public int word(int address, int field) {
-            return x.word(address, field);
-        }
-
-        @Override
-        public int look(int what) {
-            return x.look(what);
-        }
-
-        @Override
-        public int owner(int address, int right) {
-            return x.owner(address, right);
-        }
-
-        @Override
-        public int count(int cell) {
-            return x.count(cell);
-        }
-
-        @Override
-        public int gate(int g, int field) {
-            return x.gate(g, field);
-        }
-
-        @Override
-        public int reach() {
-            return x.reach();
-        }
-
-        @Override
-        public boolean reaches(int address) {
-            return x.reaches(address);
-        }
-
-        @Override
-        public int conserve() {
-            return x.conserve();
-        }
-    }
-
     private Seen() {
     }
 
-    static Looks of(UseOnceMachine x) {
-        return new Machine(x);
+    /** All but the orders done and the stop. */
+    static String places(Looks x, int half) {
+        return half == 0 ? held(x) : owned(x);
     }
 
-    /** All but the orders done and the stop. */
-    static String places(Looks x) {
+    static String all(Looks x, int half) {
+        return places(x, half) + " done " + x.look(3) + " stop " + x.look(4);
+    }
+
+    private static String held(Looks x) {
         StringBuilder text = new StringBuilder();
         for (int r = 0; r < 8; r++) {
             text.append(" R").append(r);
@@ -89,21 +51,24 @@ final class Seen {
             for (int f = 0; f < 5; f++) {
                 text.append(' ').append(x.word(w, f));
             }
-            for (int right = 1; right <= 8; right *= 2) {
-                text.append(' ').append(x.owner(w, right));
-            }
-            text.append(x.reaches(w) ? " yes" : " no");
         }
         for (int i = 0; i < 6; i++) {
             text.append(" C").append(i).append(' ').append(x.count(i)).append(" G").append(i);
             text.append(' ').append(x.gate(i, 0)).append(' ').append(x.gate(i, 1)).append(' ').append(x.gate(i, 2));
         }
         text.append(" L ").append(x.look(0)).append(' ').append(x.look(1)).append(' ').append(x.look(2));
-        text.append(" S ").append(x.look(5)).append(' ').append(x.look(6)).append(' ').append(x.look(7));
-        return text.append(" reach ").append(x.reach()).append(" conserve ").append(x.conserve()).toString();
+        return text.append(" S ").append(x.look(5)).append(' ').append(x.look(6)).append(' ').append(x.look(7)).toString();
     }
 
-    static String all(Looks x) {
-        return places(x) + " done " + x.look(3) + " stop " + x.look(4);
+    private static String owned(Looks x) {
+        StringBuilder text = new StringBuilder();
+        for (int w = 0; w < 48; w++) {
+            text.append(" O").append(w);
+            for (int right = 1; right <= 8; right *= 2) {
+                text.append(' ').append(x.owner(w, right));
+            }
+            text.append(x.reaches(w) ? " yes" : " no");
+        }
+        return text.append(" reach ").append(x.reach()).append(" conserve ").append(x.conserve()).toString();
     }
 }
