@@ -24,6 +24,7 @@ public final class Promise04CallTest extends Machines {
             Promise04CallTest::otherIsFull);
         Sentence.holds("4.94", "a note of what is in the gate and the lent registers up to k", Promise04CallTest::everyPatternAndK);
         Sentence.holds("4.95", "Of a shared one it copies it", Promise04CallTest::callsKeepCounts);
+        Sentence.holds("4.96", "none is ever lost or doubled;", Promise04CallTest::wordsStay);
         Check.end();
     }
 
@@ -347,5 +348,24 @@ public final class Promise04CallTest extends Machines {
         registerIs("one that was passed and not lent", x, 1, 0, 0);
         wordIs("is where the callee put it", x, 16, 1, 0, 8, 15, 0);
         Check.same("conserve", x.conserve(), 0);
+    }
+
+    /** A call and a return touch registers and a gate alone: the first and the last word stay as they are, at each depth. */
+    private static void wordsStay() {
+        int[][] caller = rows(CUT, o(SPLIT, 2, 3, 31), o(STORE, 3, 1, 0), o(NUMBER, 4, -7), o(STORE, 4, 1, 15), o(SEAL, 2, 1, 0),
+            o(CALL, 2, 0), STOP);
+        Used x = booted(caller, rows(BACK), NO_CODE);
+        go(x, 6);
+        for (int i = 0; i < 3; i++) {
+            wordIs("the first word", x, 0, 1, 47, 48, 15, 0);
+            wordIs("a number", x, 15, 0, -7, 0, 0, 0);
+            Check.same("who owns the last word", x.owner(47, 1), 100);
+            Check.same("conserve", x.conserve(), 0);
+            Check.same("step", x.step(1), i < 2 ? 0 : -1);
+        }
+        x = fiveDeep();
+        for (int g = 0; g < 4; g++) {
+            wordIs("the seals that were put away on the way down", x, 2 * g, 3, 0, 0, 0, g);
+        }
     }
 }
