@@ -278,6 +278,7 @@ public final class Promise04CallTest extends Machines {
         }
         returnsBadly("an exclusive one there", o(MOVE, 2, 3), BACK);
         returnsBadly("a seal there", o(SEAL, 3, 1, 0), o(MOVE, 2, 3), BACK);
+        returnsBadly("a shared one there", o(RESTRICT, 3, 2, 14), PUT, o(FREEZE, 2), BACK);
     }
 
     private static void wrongR7() {
